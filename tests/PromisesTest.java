@@ -455,6 +455,14 @@ public final class PromisesTest {
         due("what an earlier call counted is gone", x.told(0), 2);
         x.limit(1);
         due("limit matters", x.told(0), 1);
+        x = Towns.of("p00;p40;");
+        x.image();
+        Towns.tell(x, "p00;p00;p00;p00;p00;");
+        due("more came, and the enemy turns for none", x.told(-1), 6);
+        x.restore();
+        due("fewer are there again", x.told(-1), 1);
+        due("fewer are there again: 0", x.told(0), 9);
+        due("fewer are there again: 1", x.told(1), 0);
     }
 
     private static void rings() {
@@ -559,6 +567,17 @@ public final class PromisesTest {
         x = Towns.of("p69;p20;p10;p00;t03;");
         due("what is left by the next best", x.soonest(3, 0), 3);
         due("who is fit, not who would turn most", x.soonest(3, 1), 1);
+        x = Towns.of("p30;p00;p20;t01;");
+        due("one turning", x.soonest(1, 0), 2);
+        x.turnsFor(0, 1);
+        due("one turning is left", x.soonest(1, 0), 1);
+        due("the first of all people", x.soonest(1, 1), 0);
+        x = Towns.of("p00;p00;p30;t21;t21;t01;l9;");
+        Towns.tell(x, "t01;");
+        due("one card is left", x.soonest(1, 0), 1);
+        x = Towns.of("p10;p00;l9;t01;t01;t01;t01;t01;t01;t01;");
+        due("two by one who turns one", x.soonest(1, 0), 2);
+        due("by one who turns one", x.soonest(1, 1), 0);
     }
 
     private static void hide() {
@@ -800,6 +819,11 @@ public final class PromisesTest {
         DealtByOpposite x = Towns.of("p00;p20;p60;p00;");
         Towns.row(x, 0, 0, 0, 5, 2, 0);
         due("none", x.forged(0, 0), -4);
+        Towns.row(x, 0, 0, 0, 0, 0, 0);
+        due("none by level 0 alone", x.forged(0, 0), -4);
+        Towns.row(x, 0, 0, 0, 9, 4, 0);
+        due("none by level 9 alone", x.forged(0, 0), -4);
+        Towns.row(x, 0, 0, 0, 5, 2, 0);
         Towns.row(x, 0, 0, 0, 5, 3, 1);
         due("the first that fits none of all up to it", x.forged(0, 0), 2);
         due("the own place is skipped", x.forged(2, 0), 3);
@@ -888,6 +912,16 @@ public final class PromisesTest {
         due("and no more than that", x.months(20, 12345, 1) <= 40 ? 1 : 0, 1);
         Towns.tell(x, "f019;f109;");
         due("one who may not turns nothing", x.months(20, 12345, 1), 0);
+        x = Towns.of("p30;p40;");
+        due("three cards each time", x.months(20, 99, 0), 3 * x.months(20, 99, 1));
+        due("nine at most", x.months(20, 99, 1) <= 60 ? 1 : 0, 1);
+        // By seed 1 the draws below three are 2 1, 0 1, 1 2, 0 0, 0 0, 1 2, 0 0, 2 2, 0 0, 0 0: the child turns once.
+        x = Towns.of("p30;p40;p40;");
+        due("who is drawn first turns", x.months(1, 1, 1), 1);
+        due("three cards", x.months(1, 1, 0), 3);
+        // From now on each month, so that what is turned now counts each month.
+        Towns.tell(x, "t01;t01;t02;");
+        due("what is turned now counts", x.months(1, 1, 0), 12);
     }
 
     private static int[] monthsOfTwoChildren(int n, int seed) {
@@ -1002,6 +1036,9 @@ public final class PromisesTest {
         due("behind its last", x.put(0, 100, 5), -13);
         due("anew", x.row(0, 2, 100), 0);
         due("all are 0 again", element(x, 0, 99), 0);
+        x.put(0, 0, 7);
+        x.row(0, 2, 1);
+        due("the first is 0 again", element(x, 0, 0), 0);
         due("none", x.row(0, 1, 0), 0);
         due("no place in it", x.put(0, 0, 1), -13);
         x.keep(1, 1, 2, 3);

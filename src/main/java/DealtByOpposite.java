@@ -1151,12 +1151,8 @@ public final class DealtByOpposite {
             if (people < 0 || people >= ones.length) {
                 return false;
             }
+            // Behind the last one all is 0 already: people get fewer by become alone, which copies those places, too.
             ones[people] = one;
-            write(turned, people, 0);
-            for (int other = 0; other <= people; other++) {
-                write(fond, people * MOST_PEOPLE + other, 0);
-                write(fond, other * MOST_PEOPLE + people, 0);
-            }
             people++;
             return true;
         }
