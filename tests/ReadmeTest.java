@@ -7,7 +7,6 @@ import java.util.ArrayList;
 import java.util.List;
 import java.util.regex.Matcher;
 import java.util.regex.Pattern;
-import javax.tools.ToolProvider;
 
 /** README.md: its examples, one behind the other on one object, answer what stands behind them, and it names all calls. */
 public final class ReadmeTest {
@@ -52,7 +51,7 @@ public final class ReadmeTest {
             : line;
     }
 
-    private static Class<?> compiled(String source) throws IOException, ClassNotFoundException {
+    private static Class<?> compiled(String source) throws Exception {
         Path folder = Files.createTempDirectory("readme");
         Path file = folder.resolve(EXAMPLE + ".java");
         Path made = folder.resolve(EXAMPLE + ".class");
@@ -61,9 +60,9 @@ public final class ReadmeTest {
             left.toFile().deleteOnExit();
         }
         Files.writeString(file, source);
-        int exit = ToolProvider.getSystemJavaCompiler().run(null, null, null, "-d", folder.toString(),
-            "-cp", System.getProperty("java.class.path"), file.toString());
-        Check.due("compiling README.md's examples", exit, 0);
+        Process javac = new ProcessBuilder("javac", "-d", folder.toString(),
+            "-cp", System.getProperty("java.class.path"), file.toString()).inheritIO().start();
+        Check.due("compiling README.md's examples", javac.waitFor(), 0);
         return new URLClassLoader(new URL[] {folder.toUri().toURL()}).loadClass(EXAMPLE);
     }
 
